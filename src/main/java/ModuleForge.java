@@ -391,8 +391,9 @@ public final class ModuleForge {
         static final int S_OPEN = 35;
         static final int S_CLOSE = 36;
         static final int S_RETURN = 37;
-        static final int P_VAL = 38;
-        static final int P_HIDE = 39;
+        static final int P_HIDE = 38;
+        // these three, and then four, in the order of WORDS
+        static final int P_VAL = 39;
         static final int P_TYPE = 40;
         static final int P_MOD = 41;
         static final int B_VAL = 42;
@@ -480,66 +481,36 @@ public final class ModuleForge {
         }
 
         private void binding(int deep) {
-            switch (tokens.kinds[at]) {
+            int word = tokens.kinds[at];
+            if (word < Tokens.VAL || word > Tokens.SIG) {
+                fault();
+            }
+            take(word);
+            int place = place();
+            int name = take(word == Tokens.VAL || word == Tokens.TYPE ? Tokens.SMALL : Tokens.GREAT);
+            take('=');
+            boolean hasValue = word == Tokens.VAL || word == Tokens.MOD;
+            int skip = hasValue ? Code.MOST : code.add(Code.SKIP, 0, place);
+            meaning(word, deep);
+            take(';');
+            code.add(Code.B_VAL + word - Tokens.VAL, name, place);
+            code.aim(skip);
+        }
+
+        private void meaning(int word, int deep) {
+            switch (word) {
                 case Tokens.VAL:
-                    valBinding(deep);
+                    expr(deep);
                     break;
                 case Tokens.TYPE:
-                    typeBinding(deep);
+                    type(deep);
                     break;
                 case Tokens.MOD:
-                    modBinding(deep);
-                    break;
-                case Tokens.SIG:
-                    sigBinding(deep);
+                    module(deep);
                     break;
                 default:
-                    fault();
+                    sign(deep);
             }
-        }
-
-        private void valBinding(int deep) {
-            take(Tokens.VAL);
-            int place = place();
-            int name = take(Tokens.SMALL);
-            take('=');
-            expr(deep);
-            take(';');
-            code.add(Code.B_VAL, name, place);
-        }
-
-        private void typeBinding(int deep) {
-            take(Tokens.TYPE);
-            int place = place();
-            int name = take(Tokens.SMALL);
-            take('=');
-            int skip = code.add(Code.SKIP, 0, place);
-            type(deep);
-            take(';');
-            code.add(Code.B_TYPE, name, place);
-            code.aim(skip);
-        }
-
-        private void modBinding(int deep) {
-            take(Tokens.MOD);
-            int place = place();
-            int name = take(Tokens.GREAT);
-            take('=');
-            module(deep);
-            take(';');
-            code.add(Code.B_MOD, name, place);
-        }
-
-        private void sigBinding(int deep) {
-            take(Tokens.SIG);
-            int place = place();
-            int name = take(Tokens.GREAT);
-            take('=');
-            int skip = code.add(Code.SKIP, 0, place);
-            sign(deep);
-            take(';');
-            code.add(Code.B_SIG, name, place);
-            code.aim(skip);
         }
 
         private void module(int deep) {
@@ -654,53 +625,26 @@ public final class ModuleForge {
         }
 
         private void spec(int deep) {
-            switch (tokens.kinds[at]) {
-                case Tokens.VAL:
-                    valSpec(deep);
-                    break;
-                case Tokens.TYPE:
-                    typeSpec(deep);
-                    break;
-                case Tokens.MOD:
-                    modSpec(deep);
-                    break;
-                default:
-                    fault();
+            int word = tokens.kinds[at];
+            if (word < Tokens.VAL || word > Tokens.MOD) {
+                fault();
             }
-        }
-
-        private void valSpec(int deep) {
-            take(Tokens.VAL);
+            take(word);
             int place = place();
-            int name = take(Tokens.SMALL);
-            take(':');
-            type(deep);
-            take(';');
-            code.add(Code.P_VAL, name, place);
-        }
-
-        private void typeSpec(int deep) {
-            take(Tokens.TYPE);
-            int place = place();
-            int name = take(Tokens.SMALL);
-            int op = Code.P_HIDE;
-            if (is('=')) {
-                take('=');
-                type(deep);
-                op = Code.P_TYPE;
+            int name = take(word == Tokens.MOD ? Tokens.GREAT : Tokens.SMALL);
+            int op = Code.P_VAL + word - Tokens.VAL;
+            if (word == Tokens.TYPE && is(';')) {
+                op = Code.P_HIDE;
+            } else {
+                take(word == Tokens.TYPE ? '=' : ':');
+                if (word == Tokens.MOD) {
+                    sign(deep);
+                } else {
+                    type(deep);
+                }
             }
             take(';');
             code.add(op, name, place);
-        }
-
-        private void modSpec(int deep) {
-            take(Tokens.MOD);
-            int place = place();
-            int name = take(Tokens.GREAT);
-            take(':');
-            sign(deep);
-            take(';');
-            code.add(Code.P_MOD, name, place);
         }
 
         private void type(int deep) {
@@ -1091,7 +1035,7 @@ public final class ModuleForge {
         static final int MODULE = 2;
         static final int SIGNATURE = 3;
         static final int MOST_COMPONENTS = 60;
-        // a level costs nine characters of THE TEXT, so no OFFER is that deep
+        // a level costs eight characters of THE TEXT, so no OFFER is that deep
         static final int DEEPEST = 40;
         private static final int FUNCTOR = -1;
         private static final int ROOM = 64;
@@ -1289,7 +1233,7 @@ public final class ModuleForge {
                 mark(firsts[offer], deep + 1);
                 mark(results[offer], deep + 1);
                 // what came up within a FUNCTOR is known nowhere else, so all of it is bound here
-                for (int n = froms[offer]; n < tos[offer]; n++) {
+                for (int n = froms[offer]; n < tos[offer] && n < marks.length; n++) {
                     marks[n] = 0;
                 }
                 return;

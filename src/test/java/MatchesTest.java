@@ -57,10 +57,12 @@ public final class MatchesTest {
         // both sides bind the same SECRETS
         b.good("sig S={type t;};sig T=fun(X:S)S;mod F=fun(X:S)X;mod G=F:>T;mod H=G:>T;", 5);
         b.matches("G", 'T', true).matches("H", 'T', true).matches("F", 'T', true);
-        // a FUNCTOR against one that comes from within its own argument
-        b.good("sig W={type s;mod N:fun(Y:{}){type u=s;};};sig V={type s;mod N:fun(Z:W){type u=s;};};sig U=fun(X:V){};"
-                + "mod M=fun(X:V)X.N;mod K=fun(X:V){};", 5);
-        b.matches("K", 'U', true).matches("M", 'U', false);
+        // a FUNCTOR against one that its own argument has come from: X.N and N bind the same, but are not the same
+        String w = "sig W={type s;mod N:fun(Y:{}){type u=s;};};";
+        b.good(w + "sig V={type s;mod N:fun(Z:W){type u=Z.s;};};mod A={type s=int;mod N=fun(X:V){type u=X.s;};};", 3);
+        b.matches("A", 'V', false);
+        b.good(w + "sig V={type s;mod N:fun(Z:W){type u=s;};};mod A={type s=int;mod N=fun(X:V){type u=int;};};", 3);
+        b.matches("A", 'V', true);
     }
 
     private static void thrown() {
