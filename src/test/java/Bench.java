@@ -2,6 +2,16 @@ import java.util.concurrent.Callable;
 
 /** One ModuleForge with calls that compare its answers with those that are due. */
 final class Bench {
+    /** Calls that bring an object into some state. */
+    interface Story {
+        void tell(Bench b);
+    }
+
+    /** One call on an object. */
+    interface Call {
+        Object on(ModuleForge forge);
+    }
+
     private static int wrong = 0;
 
     final ModuleForge forge = new ModuleForge();
@@ -28,6 +38,68 @@ final class Bench {
         } catch (Exception e) {
             return e.getClass().getSimpleName();
         }
+    }
+
+    /** The call throws that, and later calls answer as on an object that has not been called so. */
+    static void refused(String name, Story before, Call call, String exception) {
+        Bench called = new Bench();
+        Bench other = new Bench();
+        before.tell(called);
+        before.tell(other);
+        due(name, answer(() -> call.on(called.forge)), exception);
+        due("where after " + name, called.forge.where(), other.forge.where());
+        due("what is there after " + name, called.allAnswers(), other.allAnswers());
+        due("what THE TEXT is after " + name, called.allOfText(), other.allOfText());
+    }
+
+    /** The text, with the mark ^ before the place of its fault, is refused; all but where stays as it was. */
+    static void refusedText(Story before, String marked, String exception) {
+        Bench called = new Bench();
+        Bench other = new Bench();
+        before.tell(called);
+        before.tell(other);
+        called.fault(marked, exception);
+        other.give(marked.replace("^", ""));
+        due("what is there after " + marked, called.allAnswers(), other.allAnswers());
+        due("what THE TEXT is after " + marked, called.allOfText(), other.allOfText());
+    }
+
+    // an object is used for 512 calls at most, so these ask for little
+    private String allAnswers() {
+        StringBuilder seen = new StringBuilder();
+        for (int what = 0; what <= 3; what++) {
+            seen.append(forge.count(what)).append(' ');
+        }
+        seen.append(spelled()).append(' ');
+        for (String path : new String[] {"x", "y", "f", "A.x"}) {
+            seen.append(answer(() -> forge.result(pack(path)))).append(' ');
+        }
+        seen.append(answer(() -> forge.matches('A', 'S'))).append(' ').append(answer(() -> forge.matches('F', 'S')));
+        for (String path : new String[] {"0x", "0y", "0f", "1t", "1A.t", "2A", "2F"}) {
+            seen.append(' ').append(answer(() -> forge.look(path.charAt(0) - '0', pack(path.substring(1)))));
+            seen.append(' ').append(spelled());
+        }
+        return seen.toString();
+    }
+
+    /** What elaborate makes of THE TEXT, as it is and with a little more. */
+    private String allOfText() {
+        StringBuilder seen = new StringBuilder();
+        for (String more : new String[] {"", ";", "val y=3;"}) {
+            seen.append(answer(() -> forge.text(pack(more)))).append(' ');
+            seen.append(answer(forge::elaborate)).append(' ').append(forge.where()).append(' ');
+            seen.append(answer(() -> forge.run(500))).append(' ').append(allAnswers());
+        }
+        return seen.toString();
+    }
+
+    private String spelled() {
+        StringBuilder text = new StringBuilder();
+        int length = forge.told(-1);
+        for (int k = 0; k < length; k++) {
+            text.append((char) forge.told(k));
+        }
+        return text.toString();
     }
 
     /** The characters as the bytes of a long, the first one highest. */
@@ -66,6 +138,13 @@ final class Bench {
         fault(marked, "UnsupportedOperationException");
     }
 
+    /** The text can be read; whether something in it is WRONG is not looked at. */
+    void read(String text) {
+        give(text);
+        String got = answer(forge::elaborate);
+        due("whether " + text + " can be read", got.equals("IllegalArgumentException"), false);
+    }
+
     private void fault(String marked, String exception) {
         int place = marked.indexOf('^');
         give(marked.substring(0, place) + marked.substring(place + 1));
@@ -89,11 +168,7 @@ final class Bench {
 
     Bench told(String want) {
         due("told(-1)", forge.told(-1), want.length());
-        StringBuilder got = new StringBuilder();
-        for (int k = 0; k < forge.told(-1); k++) {
-            got.append((char) forge.told(k));
-        }
-        due("told", got.toString(), want);
+        due("told", spelled(), want);
         due("told behind the end", forge.told(want.length()), ModuleForge.NONE);
         return this;
     }

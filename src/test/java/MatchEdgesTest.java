@@ -1,0 +1,154 @@
+/** The edges of MATCHES, and the bounds of promise 8: NAMES from A to Z, PATHS, what is refused. */
+public final class MatchEdgesTest {
+    private static final String ILLEGAL_ARGUMENT = "IllegalArgumentException";
+    private static final String NO_SUCH_ELEMENT = "NoSuchElementException";
+
+    public static void main(String[] args) {
+        namesThatAreRefused();
+        pathsThatAreRefused();
+        noProgram();
+        noneSuch();
+        namesFromAToZ();
+        noComponentAndEach();
+        bySortAndName();
+        theFirstTypeThatIsIt();
+        hiddenInModules();
+        structureAndFunctor();
+        argumentsTheOtherWay();
+        resultsWithThoseMade();
+        sameAsSealing();
+        nothingIsMade();
+        Bench.end();
+    }
+
+    private static void namesThatAreRefused() {
+        for (int name : new int[] {'A' - 1, 'Z' + 1, 'a', 'z', 0, -1, 'A' + 256, Integer.MIN_VALUE, Integer.MAX_VALUE}) {
+            Stories.refusedAlways("matches(A, " + name + ")", f -> f.matches('A', name), ILLEGAL_ARGUMENT);
+        }
+    }
+
+    private static void pathsThatAreRefused() {
+        for (String path : new String[] {"", ".", "A.", ".A", "A..B", "AB", "A.B.", "A B", "x", "A.x", "x.A", "A.B.C.D.", "1", "A-B", "@", "["}) {
+            Stories.refusedAlways("matches(" + path + ", S)", f -> f.matches(Bench.pack(path), 'S'), ILLEGAL_ARGUMENT);
+        }
+        Stories.refusedAlways("matches(-1, S)", f -> f.matches(-1, 'S'), ILLEGAL_ARGUMENT);
+    }
+
+    private static void noProgram() {
+        Stories.refused(Stories.withoutProgram(), "matches(A, S)", f -> f.matches('A', 'S'), "IllegalStateException");
+        Stories.refused(Stories.withoutProgram(), "matches(A.B, Z)", f -> f.matches(Bench.pack("A.B"), 'Z'), "IllegalStateException");
+    }
+
+    private static void noneSuch() {
+        Stories.refused(Stories.withProgram(), "matches(B, S)", f -> f.matches('B', 'S'), NO_SUCH_ELEMENT);
+        Stories.refused(Stories.withProgram(), "matches(S, S)", f -> f.matches('S', 'S'), NO_SUCH_ELEMENT);
+        Stories.refused(Stories.withProgram(), "matches(A, A)", f -> f.matches('A', 'A'), NO_SUCH_ELEMENT);
+        Stories.refused(Stories.withProgram(), "matches(A.B, S)", f -> f.matches(Bench.pack("A.B"), 'S'), NO_SUCH_ELEMENT);
+        Stories.refused(Stories.withProgram(), "matches(F.X, S)", f -> f.matches(Bench.pack("F.X"), 'S'), NO_SUCH_ELEMENT);
+        Stories.refused(Stories.withProgram(), "matches(B, B)", f -> f.matches('B', 'B'), NO_SUCH_ELEMENT);
+        // a SIGNATURE in a row is gone at the end of the PROGRAM
+        new Bench().good("mod A={sig S={};};", 1).matches("A", 'S', NO_SUCH_ELEMENT);
+    }
+
+    private static void namesFromAToZ() {
+        new Bench().good("sig A={};sig Z={val x:int;};mod A={};mod Z={val x=1;};", 4)
+                .matches("A", 'A', true).matches("A", 'Z', false).matches("Z", 'A', true).matches("Z", 'Z', true);
+        // the longest PATH that has room
+        new Bench().good("sig S={};sig T={val x:int;};mod A={mod B={mod C={mod D={val x=1;};};};};", 3)
+                .matches("A.B.C.D", 'T', true).matches("A.B.C.D", 'S', true).matches("A.B.C", 'T', false).matches("A.B.C.C", 'T', NO_SUCH_ELEMENT);
+    }
+
+    private static void noComponentAndEach() {
+        Bench b = new Bench();
+        b.good("sig S={};mod A={};mod B={val x=1;type t=int;mod A={};};", 3).matches("A", 'S', true).matches("B", 'S', true);
+        String s = "sig S={val x:int;type t=bool;mod A:{val y:int;};};";
+        b.good(s + "mod A={mod A={val z=1;val y=1;};type t=bool;val x=1;val w=2;};", 2).matches("A", 'S', true);
+        // each one but one
+        b.good(s + "mod A={type t=bool;mod A={val y=1;};};mod B={val x=1;mod A={val y=1;};};mod C={val x=1;type t=bool;};"
+                + "mod D={val x=1;type t=bool;mod A={};};", 5);
+        b.matches("A", 'S', false).matches("B", 'S', false).matches("C", 'S', false).matches("D", 'S', false);
+        // each one, but one that is not the same
+        b.good(s + "mod A={val x=true;type t=bool;mod A={val y=1;};};mod B={val x=1;type t=int;mod A={val y=1;};};"
+                + "mod D={val x=1;type t=bool;mod A={val y=(1,1);};};", 4);
+        b.matches("A", 'S', false).matches("B", 'S', false).matches("D", 'S', false);
+    }
+
+    private static void bySortAndName() {
+        Bench b = new Bench().good("sig V={val x:int;};sig T={type x=int;};sig M={mod X:{};};mod A={val x=1;};mod B={type x=int;};mod C={mod X={};};"
+                + "mod D={val y=1;type y=int;mod Y={};};", 7);
+        b.matches("A", 'V', true).matches("A", 'T', false).matches("A", 'M', false);
+        b.matches("B", 'V', false).matches("B", 'T', true).matches("B", 'M', false);
+        b.matches("C", 'V', false).matches("C", 'T', false).matches("C", 'M', true);
+        b.matches("D", 'V', false).matches("D", 'T', false).matches("D", 'M', false);
+    }
+
+    private static void theFirstTypeThatIsIt() {
+        Bench b = new Bench();
+        // t is looked for first; u must be the same then
+        b.good("sig S={type t;type u=t;};mod A={type u=int;type t=int;};mod B={type t=int;type u=bool;};", 3);
+        b.matches("A", 'S', true).matches("B", 'S', false);
+        b.good("sig S={type t;val x:t;};mod A={type t=int*int;val x=(1,2);};mod B={type t=int*int;val x=1;};mod C={val x=1;};", 4);
+        b.matches("A", 'S', true).matches("B", 'S', false).matches("C", 'S', false);
+        // two HIDDEN ones can stand for one TYPE, one can not for two
+        b.good("sig S={type t;type u;val f:t->u;};sig T={type t;val f:t->t;};mod A={type t=int;type u=int;val f=\\x:int.x;};"
+                + "mod B={type t=int;type u=bool;val f=\\x:int.x<1;};", 4);
+        b.matches("A", 'S', true).matches("A", 'T', true).matches("B", 'S', true).matches("B", 'T', false);
+        // a HIDDEN one can stand for a SECRET
+        b.good("sig S={type t;val x:t;};mod A={type t=int;val x=1;}:>S;mod B={type t=int;val x=A.x;};mod C={type t=A.t;val x=A.x;};", 4);
+        b.matches("A", 'S', true).matches("B", 'S', false).matches("C", 'S', true);
+    }
+
+    private static void hiddenInModules() {
+        Bench b = new Bench();
+        b.good("sig S={mod A:{type t;};mod B:{type t=A.t;val x:t;};};mod M={mod A={type t=int;};mod B={type t=int;val x=1;};};"
+                + "mod N={mod A={type t=bool;};mod B={type t=int;val x=1;};};mod O={mod A={};mod B={type t=int;val x=1;};};", 4);
+        b.matches("M", 'S', true).matches("N", 'S', false).matches("O", 'S', false);
+        // not those in FUNCTORS: there the TYPE must be what it is elsewhere
+        b.good("sig S={type t;mod F:fun(X:{}){type u=t;};};mod A={type t=int;mod F=fun(X:{}){type u=int;};};"
+                + "mod B={type t=int;mod F=fun(X:{}){type u=bool;};};", 3);
+        b.matches("A", 'S', true).matches("B", 'S', false);
+    }
+
+    private static void structureAndFunctor() {
+        Bench b = new Bench().good("sig S={};sig F=fun(X:{}){};sig M={mod A:{};};sig N={mod A:fun(X:{}){};};mod A={};mod F=fun(X:{})X;mod M={mod A=A;};"
+                + "mod N={mod A=F;};", 8);
+        b.matches("A", 'S', true).matches("A", 'F', false).matches("F", 'S', false).matches("F", 'F', true);
+        b.matches("M", 'M', true).matches("M", 'N', false).matches("N", 'M', false).matches("N", 'N', true);
+        b.matches("N.A", 'F', true).matches("M.A", 'F', false);
+    }
+
+    private static void argumentsTheOtherWay() {
+        Bench b = new Bench();
+        b.good("sig T=fun(X:{val x:int;val y:int;}){};mod F=fun(X:{val x:int;}){};mod G=fun(X:{val x:int;val y:int;val z:int;}){};mod H=fun(X:{}){};", 4);
+        b.matches("F", 'T', true).matches("G", 'T', false).matches("H", 'T', true);
+        b.good("sig T=fun(X:{type t=int;}){};sig U=fun(X:{type t;}){};mod F=fun(X:{type t;}){};mod G=fun(X:{type t=int;}){};mod H=fun(X:{type t=bool;}){};", 5);
+        b.matches("F", 'T', true).matches("F", 'U', true).matches("G", 'T', true).matches("G", 'U', false).matches("H", 'T', false);
+    }
+
+    private static void resultsWithThoseMade() {
+        Bench b = new Bench();
+        String s = "sig S={type t;};sig T=fun(X:S)S;sig U=fun(X:S){type t=X.t;};sig V=fun(X:S){type t=int;};";
+        b.good(s + "mod F=fun(X:S)X;mod G=fun(X:S){type t=int;};mod H=fun(X:S)X:>S;mod I=fun(X:S){};", 8);
+        b.matches("F", 'T', true).matches("F", 'U', true).matches("F", 'V', false);
+        b.matches("G", 'T', true).matches("G", 'U', false).matches("G", 'V', true);
+        b.matches("H", 'T', true).matches("H", 'U', false).matches("H", 'V', false);
+        b.matches("I", 'T', false).matches("I", 'U', false).matches("I", 'V', false);
+    }
+
+    private static void sameAsSealing() {
+        Bench b = new Bench();
+        String s = "sig S={type t;val f:t->int;};";
+        b.good(s + "mod A={type t=bool;val f=\\x:bool.1;};mod B=A:>S;", 3).matches("A", 'S', true).matches("B", 'S', true);
+        b.good(s + "mod A={type t=bool;val f=\\x:int.1;};", 2).matches("A", 'S', false);
+        b.wrong(s + "mod A={type t=bool;val f=\\x:int.1;};mod B=A^:>S;");
+        b.wrong(s + "mod A={type t=bool;val f=\\x:int.1;};mod F=fun(X:S)X;mod B=F^(A);");
+    }
+
+    private static void nothingIsMade() {
+        Bench b = new Bench().good("sig S={type t;type u;};mod A={type t=int;type u=bool;};type t=int*int;", 3).type("t", 2, "(int*int)").run(9, 1, 1);
+        for (int i = 0; i < 100; i++) {
+            b.matches("A", 'S', true).count(2, 2);
+        }
+        b.told("(int*int)").count(3, 1).type("A.t", 1, "int");
+    }
+}
