@@ -13,6 +13,8 @@ public final class ElaborateEdgesTest {
         onlyThoseThatAreNotInOthers();
         theSameTextAgain();
         manyAfterEachOther();
+        nothingOfEarlierOnes();
+        manyFaultsInTheMidst();
         newObjectsApart();
         fiveHundredAndTwelveCalls();
         Bench.end();
@@ -112,6 +114,34 @@ public final class ElaborateEdgesTest {
             b.wrong("val x=9;val y=^z;");
             b.run(1, 1, 1).result("x", i).value("x", 1, "int");
         }
+    }
+
+    private static void nothingOfEarlierOnes() {
+        String earlier = "val x=1;type t=int;mod A={val y=1;};sig S={};";
+        for (int times = 1; times <= 3; times++) {
+            Bench b = new Bench();
+            for (String first : new String[] {"val x=1;", "type t=int;", "mod A={val y=1;};", "sig S={};"}) {
+                for (int i = 0; i < times; i++) {
+                    b.good(first + earlier, 5);
+                }
+                b.wrong("val y=^x;");
+                b.wrong("type u=^t;");
+                b.wrong("mod B=^A;");
+                b.wrong("mod B={}:>^S;");
+                b.good("val z=1;", 1).look(0, "x", "NoSuchElementException").look(1, "t", "NoSuchElementException");
+                b.look(2, "A", "NoSuchElementException").matches("A", 'S', "NoSuchElementException");
+            }
+        }
+    }
+
+    /** What a fault leaves behind in the midst of many open parts does not pile up. */
+    private static void manyFaultsInTheMidst() {
+        Bench b = new Bench();
+        for (int i = 0; i < 14; i++) {
+            b.wrong("mod A=fun(X:{type t;})fun(Y:{type t;}){mod B={val x=(1,(2,(3,(4,^z))));};};");
+            b.noProgram("mod A=fun(X:{type t;})fun(Y:{type t;}){mod B={val x=(1,(2,(3,(4,^;");
+        }
+        b.good("sig S={type t;};mod A={mod B={val x=(1,(2,(3,(4,(5,6)))));};};val y=A.B.x;", 3).value("y", 6, "(int*(int*(int*(int*(int*int)))))");
     }
 
     private static void newObjectsApart() {

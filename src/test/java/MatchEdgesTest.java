@@ -13,10 +13,13 @@ public final class MatchEdgesTest {
         bySortAndName();
         theFirstTypeThatIsIt();
         hiddenInModules();
+        onlyThoseThatAreHidden();
+        theFirstModuleOfAll();
         structureAndFunctor();
         argumentsTheOtherWay();
         resultsWithThoseMade();
         sameAsSealing();
+        nothingStaysOfSealing();
         nothingIsMade();
         Bench.end();
     }
@@ -109,6 +112,26 @@ public final class MatchEdgesTest {
         b.matches("A", 'S', true).matches("B", 'S', false);
     }
 
+    private static void onlyThoseThatAreHidden() {
+        Bench b = new Bench();
+        // A.t is a SECRET, but none of those that S hides
+        String a = "mod A={type t=int;val x=1;}:>{type t;val x:t;};";
+        b.good(a + "sig S={type t;type u=A.t;val x:t;};mod B={type t=int;type u=int;val x=1;};mod C={type t=int;type u=A.t;val x=1;};"
+                + "mod D={type t=A.t;type u=A.t;val x=A.x;};", 5);
+        b.matches("B", 'S', false).matches("C", 'S', true).matches("D", 'S', true);
+        // what VALUES and TYPES before it are plays no role
+        b.good(a + "sig S={val y:bool;type u=bool;type t;val x:A.t;};mod B={val y=true;type u=bool;type t=int;val x=A.x;};", 3).matches("B", 'S', true);
+        b.good(a + "sig S={type t;type u=int->bool;val x:A.t;};mod B={type t=bool;type u=int->bool;val x=A.x;};", 3).matches("B", 'S', true);
+        // one that came up behind those that S hides
+        b.good("sig S={type t;val x:t;};" + a + "mod B={type t=A.t;val x=A.x;};mod C={type t=int;val x=A.x;};", 4);
+        b.matches("B", 'S', true).matches("C", 'S', false);
+    }
+
+    private static void theFirstModuleOfAll() {
+        new Bench().good("mod A={type t=int;};mod M={mod A=A;};sig S={mod A:{type t;};};", 3).matches("M", 'S', true).matches("A", 'S', false);
+        new Bench().good("mod A={mod B={type t=int;};};sig S={mod B:{type t;type u=t;};};", 2).matches("A", 'S', false);
+    }
+
     private static void structureAndFunctor() {
         Bench b = new Bench().good("sig S={};sig F=fun(X:{}){};sig M={mod A:{};};sig N={mod A:fun(X:{}){};};mod A={};mod F=fun(X:{})X;mod M={mod A=A;};"
                 + "mod N={mod A=F;};", 8);
@@ -142,6 +165,14 @@ public final class MatchEdgesTest {
         b.good(s + "mod A={type t=bool;val f=\\x:int.1;};", 2).matches("A", 'S', false);
         b.wrong(s + "mod A={type t=bool;val f=\\x:int.1;};mod B=A^:>S;");
         b.wrong(s + "mod A={type t=bool;val f=\\x:int.1;};mod F=fun(X:S)X;mod B=F^(A);");
+    }
+
+    private static void nothingStaysOfSealing() {
+        // TYPES that were of use in matching alone are not taken for others later
+        Bench b = new Bench().good("sig S={type t;val x:t*t;};mod F=fun(X:S)X;mod G=F:>fun(X:S)S;"
+                + "type a=int*int;type b=a*a;type c=bool->int;type d=b->b;type e=c->c;", 8);
+        b.type("a", 2, "(int*int)").type("b", 4, "((int*int)*(int*int))").type("c", 2, "(bool->int)");
+        b.look(1, "d", 8).type("e", 4, "((bool->int)->(bool->int))");
     }
 
     private static void nothingIsMade() {

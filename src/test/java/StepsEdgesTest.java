@@ -18,6 +18,8 @@ public final class StepsEdgesTest {
         ninthAndLimit();
         afterTheNinth();
         eachRunAnew();
+        manyThatDoNotEnd();
+        typesAreNotDone();
         wrapping();
         comparing();
         Bench.end();
@@ -187,6 +189,22 @@ public final class StepsEdgesTest {
             b.run(500, 1, 5).result("x", 4).run(2, 0, 2).result("x", "IllegalStateException");
         }
         b.run(5, 1, 5).result("x", 4).result("A.y", "UnsupportedOperationException");
+    }
+
+    /** What a RUN leaves behind when the limit ends it in the midst does not pile up. */
+    private static void manyThatDoNotEnd() {
+        Bench b = new Bench().good("val f=\\x:int.x;val p=(1,(2,(3,(4,(5,f(f(f 7)))))));val x=fst p;", 3);
+        for (int i = 0; i < 110; i++) {
+            Bench.due("run(3)", b.forge.run(3), 0);
+        }
+        b.run(500, 1, 6).result("x", 1);
+    }
+
+    private static void typesAreNotDone() {
+        // a RUN has nothing to do with TYPES, however often it passes by
+        String t = "A.B.t*A.B.t*A.B.t*A.B.t*A.B.t*A.B.t*A.B.t*A.B.t";
+        new Bench().good("mod A={mod B={type t=int;};};val f=\\x:int.fst(x+1,\\y:" + t + ".1);val g=\\x:int.f(f(f(f(f(f(f(f x)))))));"
+                + "val x=g(g(g(g(g(g(g(g(g 0))))))));", 4).run(500, 1, 5 + 9 * 9).result("x", 72);
     }
 
     private static void wrapping() {
