@@ -50,13 +50,14 @@ public final class LookEdgesTest {
 
     private static void everyByteInAPath() {
         Bench b = new Bench().good("val a=1;", 1);
+        Bench e = new Bench().good("val a=1;", 1);
         for (int c = 1; c <= 255; c++) {
             int letter = c;
             boolean small = c >= 'a' && c <= 'z';
             boolean great = c >= 'A' && c <= 'Z';
             String value = c == 'a' ? "1" : small ? NO_SUCH_ELEMENT : ILLEGAL_ARGUMENT;
             Bench.due("look(0, " + c + ")", Bench.answer(() -> b.forge.look(0, letter)), value);
-            Bench.due("look(2, " + c + ")", Bench.answer(() -> b.forge.look(2, letter)), great ? NO_SUCH_ELEMENT : ILLEGAL_ARGUMENT);
+            Bench.due("look(2, " + c + ")", Bench.answer(() -> e.forge.look(2, letter)), great ? NO_SUCH_ELEMENT : ILLEGAL_ARGUMENT);
         }
         Bench d = new Bench().good("mod A={val a=1;};", 1);
         for (int c = 1; c <= 255; c++) {
