@@ -205,6 +205,18 @@ public final class StepsEdgesTest {
         String t = "A.B.t*A.B.t*A.B.t*A.B.t*A.B.t*A.B.t*A.B.t*A.B.t";
         new Bench().good("mod A={mod B={type t=int;};};val f=\\x:int.fst(x+1,\\y:" + t + ".1);val g=\\x:int.f(f(f(f(f(f(f(f x)))))));"
                 + "val x=g(g(g(g(g(g(g(g(g 0))))))));", 4).run(500, 1, 5 + 9 * 9).result("x", 72);
+        // PATHS in TYPES and SIGNS within rows that are done
+        String hidden = "mod T={type t=int;mod U={type u=bool;};};";
+        Bench b = new Bench();
+        b.good(hidden + "mod A={val x=5;type u=T.t*T.U.u;val y=6;};val z=A.x-A.y;", 3).run(500, 1, 6).result("A.x", 5).result("A.y", 6).result("z", -1);
+        b.good(hidden + "mod A={val w=4;sig S={val x:T.t;};mod B={val x=5;}:>S;val y=w;};val z=A.y;", 3).run(500, 1, 8);
+        b.result("A.w", 4).result("A.B.x", 5).result("A.y", 4).result("z", 4);
+        b.good(hidden + "mod A={val w=4;mod B={val x=5;}:>{val x:T.t;}:>{val x:T.t;};};", 2).run(500, 1, 6);
+        b.result("A.w", 4).result("A.B.x", 5);
+        b.good(hidden + "mod A={val w=4;mod F=fun(X:{val x:T.t;}){val y=X.x;type v=T.U.u;};val x=7;mod G=F;};mod F=A.F;mod B=F(A);", 4).run(500, 1, 11);
+        b.result("A.w", 4).result("A.x", 7).result("B.y", 7);
+        b.good(hidden + "mod A={val w=4;val f=\\x:T.t.\\y:T.U.u.if y then x else w;val z=f 3 false+f 2 true;};val x=A.f 9 true;", 3).run(500, 1, 13);
+        b.result("A.z", 6).result("A.w", 4).result("x", 9);
     }
 
     private static void wrapping() {
