@@ -17,6 +17,8 @@ public final class TokenEdgesTest {
         namesOfTheOtherSize();
         everyCharacter();
         longerSigns();
+        atTheEndOfAFullText();
+        behindALongerText();
         blanks();
         Bench.end();
     }
@@ -136,6 +138,45 @@ public final class TokenEdgesTest {
         b.noProgram("type t=int->^>int;");
         b.noProgram("val x=1<^<1;");
         b.noProgram("val x=1<^=1;");
+    }
+
+    /** A TOKEN ends where THE TEXT does, also when that is full. */
+    private static void atTheEndOfAFullText() {
+        Bench b = new Bench();
+        for (String[] word : WORDS) {
+            for (int letters = 2; letters <= word[0].length(); letters++) {
+                String part = word[0].substring(0, letters);
+                boolean begins = "val type mod sig".contains(word[0]) && letters == word[0].length();
+                String text = " ".repeat(240 - letters);
+                b.noProgram(begins ? text + part + "^" : text + "^" + part);
+            }
+        }
+        b.noProgram(" ".repeat(233) + "val x=1^");
+        b.noProgram(" ".repeat(230) + "val x=1234^");
+        b.noProgram(" ".repeat(229) + "val x=^12345");
+        b.noProgram(" ".repeat(232) + "val x=1^=");
+        b.noProgram(" ".repeat(231) + "val x=1==^");
+        b.noProgram(" ".repeat(231) + "mod A={}^:");
+        b.noProgram(" ".repeat(229) + "type t=int^-");
+    }
+
+    /** What THE TEXT had before it was cleared does not go on with it. */
+    private static void behindALongerText() {
+        behind("val x=1;", "^va");
+        behind("val x=1;", "val^");
+        behind("val x=true;", "val x=^tru");
+        behind("val x=1234;", "val x=123^");
+        behind("val x=1==1;", "val x=1^=");
+        behind("mod A={}:>{};", "mod A={}^:");
+        behind("type t=int->int;", "type t=int^-");
+        behind("val x=1;val y=2;", "val x=1;val^");
+        new Bench().good("val x=1;val y=2;", 2).good("val x=1;", 1).look(0, "y", "NoSuchElementException");
+        new Bench().good("val x=12;", 1).good("val x=1;", 1).run(1, 1, 1).result("x", 1);
+    }
+
+    private static void behind(String longer, String marked) {
+        int bindings = longer.length() - longer.replace(";", "").length();
+        new Bench().good(longer, bindings).noProgram(marked);
     }
 
     private static void blanks() {
