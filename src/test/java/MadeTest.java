@@ -14,6 +14,7 @@ public final class MadeTest {
         byNumbers();
         parametersInTheirPlace();
         signsThatSpeakOfOthers();
+        justBehindParameters();
         Bench.end();
     }
 
@@ -50,6 +51,9 @@ public final class MadeTest {
     private static void notThoseThatAreGone() {
         twice("val p=1;", 1).value("A.p", 1, "int");
         twice("mod M=T:>{};", 1).look(2, "A.M", 0);
+        // what F binds is in a TYPE that was looked at shortly before, but is not free in what H offers
+        new Bench().good("mod E={};mod H=fun(Z:{}){mod F=fun(Y:{}){" + HIDE + "val p=(1,T.x);mod T={};};mod A=F(E);val y=1;mod A={};mod F={};};mod B=H(E);", 3)
+                .count(2, 2);
         // those that were free in another OFFER before are not free in this one for that
         new Bench().good("mod E={};mod F=fun(Y:{}){" + HIDE + "mod G=fun(X:{}){type u=T.t;};mod M=G(E);mod T={};mod G={};mod M={};};mod A=F(E);", 3)
                 .count(2, 1);
@@ -102,5 +106,14 @@ public final class MadeTest {
         b.value("B.y", 1, "#0").value("C.y", 1, "#0").value("B.z", 1, "#2").value("C.z", 1, "#3");
         b.matches("B", 'S', true).matches("C", 'S', true).matches("T", 'S', false);
         b.good(HIDE + "mod F=fun(X:{type u;val y:T.t;}){val z=X.y;};mod A={type u=int;val y=T.x;};mod B=F(A);", 4).value("B.z", 1, "#0");
+    }
+
+    private static void justBehindParameters() {
+        // A.t has the number behind that of Y.u, and comes to stand in the argument beside it: it is no PARAMETER for that
+        String g = "mod H=fun(X:{type t;})fun(Y:{type u;type v=X.t;}){type w=Y.u*Y.v;};mod A={type t=int;}:>{type t;};mod G=H(A);";
+        new Bench().wrong(g + "mod B={type u=int;type v=bool;};mod C=G^(B);");
+        new Bench().good(g + "mod B={type u=int;type v=A.t;};mod C=G(B);", 5).count(2, 3).type("C.w", 2, "(int*#2)");
+        Bench b = new Bench().good("mod E={type t=int;}:>{type t;};" + g + "sig S=fun(Y:{type u;type v=E.t;}){};sig T=fun(Y:{type u;type v=A.t;}){};", 6);
+        b.matches("G", 'S', false).matches("G", 'T', true);
     }
 }

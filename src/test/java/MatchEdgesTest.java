@@ -20,6 +20,8 @@ public final class MatchEdgesTest {
         resultsWithThoseMade();
         sameAsSealing();
         nothingStaysOfSealing();
+        bothBindTheirOwn();
+        againAndAgain();
         nothingIsMade();
         Bench.end();
     }
@@ -173,6 +175,54 @@ public final class MatchEdgesTest {
                 + "type a=int*int;type b=a*a;type c=bool->int;type d=b->b;type e=c->c;", 8);
         b.type("a", 2, "(int*int)").type("b", 4, "((int*int)*(int*int))").type("c", 2, "(bool->int)");
         b.look(1, "d", 8).type("e", 4, "((bool->int)->(bool->int))");
+    }
+
+    /** What one elaborate or matches leaves behind is not taken for something by the next. */
+    private static void againAndAgain() {
+        Bench b = new Bench();
+        for (int round = 0; round < 6; round++) {
+            functorsAgainstTheirOwnSign(b);
+            typesThatOnlyMatchingMakes(b);
+        }
+    }
+
+    /** A FUNCTOR that is sealed with the SIGN it came from: each side binds its own, and others stay what they are. */
+    private static void functorsAgainstTheirOwnSign(Bench b) {
+        String t = "sig T=fun(X:{type t;}){type u;val x:X.t->u;};";
+        b.good(t + "mod F=fun(X:T)X:>T;", 2).count(2, 2).matches("F", 'T', false);
+        b.wrong(t + "mod F=fun(X:T)X^:>fun(X:{type t;}){type u;val x:u->X.t;};");
+        b.wrong(t + "mod F=fun(X:T)X^:>fun(X:{type t;}){type u=X.t;val x:X.t->u;};");
+        // the SECRET behind those that F binds is t of another S
+        b.good("sig S={type t;mod F:fun(X:{type u;}){type v=t;};};mod A=fun(X:S)X:>S;", 2).count(2, 4);
+        b.good("sig S={mod F:fun(X:{type u;}){type v;};type t;};mod A=fun(X:S)X:>S:>S;", 2).count(2, 6);
+    }
+
+    /** What a FUNCTOR binds is no TYPE of anybody else, the first SECRET of all included. */
+    private static void bothBindTheirOwn() {
+        String a = "mod A={type t=int;}:>{type t;};";
+        new Bench().good(a + "sig T=fun(X:{type u;}){type v=A.t;};mod F=fun(X:{type u;}){type v=X.u;};", 3).matches("F", 'T', false);
+        new Bench().good(a + "sig T=fun(X:{}){type v=A.t;};mod F=fun(X:{}){type v=int;}:>{type v;};", 3).matches("F", 'T', false);
+        new Bench().good(a + "sig T=fun(X:{type u;}){type v=A.t;};mod F=fun(X:{type u;}){type v=A.t;};", 3).matches("F", 'T', true);
+    }
+
+    /** TYPES that came up in matching alone are forgotten, and those that stay are still the same. */
+    private static void typesThatOnlyMatchingMakes(Bench b) {
+        String f = "mod F=fun(X:{type t;}){type t=X.t*X.t;};sig S={type t;val x:t*t*t;};";
+        b.good(f + "sig T=fun(X:S){type t;};mod G=fun(X:S)X:>S:>S;sig S={mod A:S;mod B:S;};", 5).count(2, 9);
+        b.matches("F", 'T', true).matches("G", 'T', true).matches("F", 'S', false).matches("G", 'S', false);
+        b.good(f + "sig S=fun(X:S)S;mod G=fun(X:S)X:>S:>S;mod G=fun(X:S)fun(Y:S)X;", 5).count(2, 4).matches("G", 'S', false);
+        b.good("sig S={type t;type u;val x:t*u;};mod F=fun(X:{type t;}){type t=X.t->X.t*int;mod A=X;val x=1;};sig T=fun(X:S){type t;};"
+                + "mod G=fun(X:S)X:>S:>S;", 4).count(2, 12).matches("F", 'T', true).matches("G", 'T', true).matches("G", 'S', false);
+        b.wrong("sig S={type t;type u;val x:t*u;};mod F=fun(X:{type t;}){type t=X.t->X.t*int;mod A=X;val x=1;};sig T=fun(X:S){type t;};"
+                + "mod G=fun(X:S)X:>S:>S;mod A=^A:>S;");
+        b.good("sig S={type t;};type t=int->int;mod B=fun(Y:S){sig U=S;mod B=Y;};val f=\\t:t.(if true then t else t);mod A={type t=bool->int;}:>S;"
+                + "mod X=B(A);val g=(9999,2);val u=((fst g+2),0);", 8).count(2, 4).type("X.B.t", 1, "#3");
+        b.good("sig S={type t;val x:t*t*t;};sig S={mod A:S;mod B:S;};sig S=fun(X:S)S;mod G=fun(X:S)X:>S:>S;val x=(1,2);"
+                + "mod F=fun(X:{type t;}){mod A={type t=X.t*X.t*X.t;};type t=A.t*A.t;};val x=(x,1);mod H=fun(X:S)X:>S:>S;", 8).matches("H", 'S', false);
+        b.value("x", 3, "((int*int)*int)");
+        b.good("sig S={type a;type b;type c;type d;type e;};mod F=fun(X:{type t;}){mod A={type t=X.t*X.t*X.t;};type t=A.t*A.t;};"
+                + "sig S={mod A:S;mod B:S;mod C:S;};sig S={type x;type y;type z;mod A:S;mod B:S;};" + "sig S={mod A:S;type t;};".repeat(2), 6);
+        b.count(2, 123).matches("F", 'S', false);
     }
 
     private static void nothingIsMade() {
